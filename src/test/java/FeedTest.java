@@ -15,6 +15,7 @@ final class FeedTest {
         messagesTooLong();
         masks();
         pieces();
+        twoInOneCall();
         shortOnesBetween();
         pongsCount();
         violationsWhenClosing();
@@ -67,7 +68,7 @@ final class FeedTest {
 
     private static void order() {
         FramedTalk talk = Other.open();
-        CHECK.same("a BYTES in one call", 1, talk.feed(0xFEL << 56 | 0x80L << 48 | 0x8282L & 0xFF82L | 0x8200L, 8));
+        CHECK.same("a BYTES in one call", 1, talk.feed(0xFE80000000008282L, 8));
         CHECK.same("its bytes", Other.row(0x80, 0xFE), Seen.message(talk, 0));
         for (int n = 1; n <= 8; n++) {
             FramedTalk cut = Other.open();
@@ -227,19 +228,13 @@ final class FeedTest {
         CHECK.same("empty pieces", 1, Other.feed(talk, Other.joined(Other.notLast(2), Other.notLast(0), Other.last(0))));
         CHECK.same("an empty message", NONE, Seen.message(talk, 1));
         CHECK.same("its kind", 2, talk.kind(1));
-        CHECK.same("delivered in one call", 2, talk.feed(0, 1) + deliverTwice());
     }
 
-    private static int deliverTwice() {
+    private static void twoInOneCall() {
         FramedTalk talk = Other.open();
         int[] two = Other.joined(Other.last(2), Other.last(1));
-        talk.feed(two[0] | two[1] << 8 | two[2] << 16, 3);
-        Other.feed(talk, two[3], two[4]);
-        long w = 0;
-        for (int i = 5; i < 12; i++) {
-            w |= (long) two[i] << (8 * (i - 5));
-        }
-        return talk.feed(w, 7);
+        CHECK.same("up to the last byte of the first", 0, Other.feed(talk, Arrays.copyOf(two, 5)));
+        CHECK.same("both in one call", 2, Other.feed(talk, Arrays.copyOfRange(two, 5, 12)));
     }
 
     private static void shortOnesBetween() {
