@@ -240,15 +240,11 @@ public final class FramedTalk {
 
     private void sayInBase64(Digest digest) {
         for (int i = 0; i < Digest.SIZE; i += 3) {
-            // A byte behind the last one counts as zero bits, as base64 asks for.
+            // The digest's last two bytes stand alone; the missing third counts as zero bits.
             int three = digest.result(i) << 16 | digest.result(i + 1) << 8 | digest.result(i + 2);
             sayBase64Sign(three >>> 18);
             sayBase64Sign(three >>> 12);
-            if (i + 1 < Digest.SIZE) {
-                sayBase64Sign(three >>> 6);
-            } else {
-                out.add('=');
-            }
+            sayBase64Sign(three >>> 6);
             if (i + 2 < Digest.SIZE) {
                 sayBase64Sign(three);
             } else {

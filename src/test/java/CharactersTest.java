@@ -159,7 +159,8 @@ final class CharactersTest {
         CHECK.same("an empty last one ends it", 1007, talk.endCode());
         CHECK.same("and says so", Other.row(136, 2, 3, 239), Seen.out(talk));
         FramedTalk anew = Other.open();
-        CHECK.same("each text begins anew", 2, Other.feed(anew, Other.joined(Other.last(1, 0xC3, 0xA9), Other.last(1, 'a'))));
+        int[] two = Other.joined(Other.last(1, 0xC3, 0xA9), Other.last(1, 'a'));
+        CHECK.same("each text begins anew", 2, Other.feed(anew, two));
     }
 
     private static void noCheckForBytes() {

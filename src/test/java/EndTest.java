@@ -109,7 +109,8 @@ final class EndTest {
                 fillByPongs(talk, before);
                 CHECK.same("filled", before, talk.outLength());
                 Other.feed(talk, Other.last(9, Other.many(size, 5)));
-                CHECK.same("pong of " + size + " over " + over, over <= 0 ? before + 2 + size : before, talk.outLength());
+                int due = over <= 0 ? before + 2 + size : before;
+                CHECK.same("pong of " + size + " over " + over, due, talk.outLength());
                 CHECK.same("it goes on", 1, talk.state());
             }
         }

@@ -124,7 +124,8 @@ final class FeedTest {
                 }
             }
         }
-        violates("not masked and too long", 1002, Other.joined(Other.notLast(2, Other.many(300, 1)), Other.row(128, 5)));
+        int[] full = Other.notLast(2, Other.many(300, 1));
+        violates("not masked and too long", 1002, Other.joined(full, Other.row(128, 5)));
     }
 
     private static void lengthsInTwoBytes() {
@@ -225,7 +226,8 @@ final class FeedTest {
         CHECK.same("the last piece", 1, Other.feed(talk, Other.last(0, 'd')));
         CHECK.same("the message", Other.row('a', 'b', 'c', 'd'), Seen.message(talk, 0));
         CHECK.same("its kind", 1, talk.kind(0));
-        CHECK.same("empty pieces", 1, Other.feed(talk, Other.joined(Other.notLast(2), Other.notLast(0), Other.last(0))));
+        int[] empty = Other.joined(Other.notLast(2), Other.notLast(0), Other.last(0));
+        CHECK.same("empty pieces", 1, Other.feed(talk, empty));
         CHECK.same("an empty message", NONE, Seen.message(talk, 1));
         CHECK.same("its kind", 2, talk.kind(1));
     }

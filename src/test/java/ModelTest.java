@@ -8,7 +8,9 @@ final class ModelTest {
     private static final Check CHECK = new Check("ModelTest");
     private static final int RUNS = 2500;
     private static final String[] TEXTS = {"", "a", "hello", "\u00e9", "\u20ac\u20ac", "\ud83d\ude00", "x\u0800y"};
-    private static final int[] CODES = {1000, 1000, 1000, 1001, 1003, 1004, 1005, 1007, 1011, 1012, 2999, 3000, 4999, 5000, 0, 65535};
+    private static final int[] CODES = {
+        1000, 1000, 1000, 1001, 1003, 1004, 1005, 1007, 1011, 1012, 2999, 3000, 4999, 5000, 0, 65535,
+    };
 
     private final Random random;
     private final FramedTalk talk = new FramedTalk();
@@ -131,7 +133,8 @@ final class ModelTest {
     private void addRequest() {
         String request = Other.request(Other.GOOD);
         if (random.nextInt(8) == 0) {
-            request = Other.requestWith(random.nextInt(6), random.nextInt(6) == 0 ? null : Other.GOOD[random.nextInt(6)]);
+            String line = random.nextInt(6) == 0 ? null : Other.GOOD[random.nextInt(6)];
+            request = Other.requestWith(random.nextInt(6), line);
         }
         StringBuilder changed = new StringBuilder(request);
         if (random.nextInt(8) == 0) {

@@ -148,6 +148,11 @@ final class RequestTest {
             good("a name that is longer than " + name, Other.requestAnd(name + "s:" + value));
             good("a name that is shorter than " + name, Other.requestAnd(name.substring(1) + ":" + value));
             bad("only a longer name " + name, Other.requestWith(i, name + "-:" + value));
+            for (int at = 0; at < name.length(); at++) {
+                String other = name.substring(0, at) + "0" + name.substring(at + 1);
+                bad("only " + other, Other.requestWith(i, other + ":" + value));
+                good("also " + other, Other.requestAnd(other + ":" + value));
+            }
             good("spaces at both ends " + name, Other.requestWith(i, name + ": \t " + value + "\t \t"));
             good("no space " + name, Other.requestWith(i, name + ":" + value.trim()));
         }
@@ -160,7 +165,8 @@ final class RequestTest {
         String[] upgrade = {"websocket", "WEBSOCKET", "WebSocket", "a, websocket", "websocket,a", ",websocket,",
             "a ,\twebsocket\t , b", "a b,websocket", "websocket,websocket", ",,,WEBsocket"};
         String[] noUpgrade = {"", ",", "web socket", "websockets", "ebsocket", "websocket a", "a websocket",
-            "websocket;a", "\"websocket\"", "websocket/13", "web,socket", "websocke", "upgrade", "wEbSoCkEt13"};
+            "websocket;a", "\"websocket\"", "websocket/13", "web,socket", "websocke", "upgrade", "wEbSoCkEt13", "Xebsocket",
+            "websockeX", "webXocket"};
         for (String value : upgrade) {
             good("upgrade " + value, Other.requestWith(2, "Upgrade: " + value));
         }
@@ -172,7 +178,7 @@ final class RequestTest {
             good("connection " + value, Other.requestWith(3, "Connection: " + value));
         }
         for (String value : new String[] {"", "keep-alive", "upgraded", "upgrade close", "upgrade;", "websocket",
-            "up,grade", "-upgrade"}) {
+            "up,grade", "-upgrade", "Xpgrade", "upgradX"}) {
             bad("connection " + value, Other.requestWith(3, "Connection: " + value));
         }
     }
