@@ -65,9 +65,9 @@ final class CharactersTest {
         boolean isText = isText(row);
         CHECK.same(what + " is one way or the other", true, wrong < 0 || !isText);
 
-        FramedTalk whole = Other.open();
+        Talk whole = Other.open();
         feedByBytes(what, whole, Other.last(1, row), wrong < 0 ? (isText ? -1 : 6 + row.length) : 6 + wrong);
-        FramedTalk cut = Other.open();
+        Talk cut = Other.open();
         int[][] frames = new int[row.length + 1][];
         for (int i = 0; i < row.length; i++) {
             frames[i] = Other.notLast(i == 0 ? 1 : 0, row[i]);
@@ -76,11 +76,11 @@ final class CharactersTest {
         feedByBytes(what + " cut", cut, Other.joined(frames),
                 wrong < 0 ? (isText ? -1 : 7 * row.length + 6) : 7 * wrong);
 
-        FramedTalk reason = Other.open();
+        Talk reason = Other.open();
         Other.feed(reason, Other.last(8, Other.joined(Other.row(3, 232), row)));
         CHECK.same(what + " as a reason", isText ? 1000 : 1007, reason.endCode());
 
-        FramedTalk draft = Other.openWithDraft(row);
+        Talk draft = Other.openWithDraft(row);
         if (isText) {
             CHECK.same(what + " as a draft", 1, draft.send(1, 0));
             draft.close(1000);
@@ -92,7 +92,7 @@ final class CharactersTest {
         }
     }
 
-    private static void feedByBytes(String what, FramedTalk talk, int[] bytes, int endsAt) {
+    private static void feedByBytes(String what, Talk talk, int[] bytes, int endsAt) {
         int fed = 0;
         while (fed < bytes.length && talk.state() == 1) {
             talk.feed(bytes[fed], 1);
@@ -149,7 +149,7 @@ final class CharactersTest {
     }
 
     private static void endInPieces() {
-        FramedTalk talk = Other.open();
+        Talk talk = Other.open();
         Other.feed(talk, Other.joined(Other.notLast(1, 0xF0), Other.notLast(0, 0x9F, 0x98), Other.notLast(0)));
         CHECK.same("a character over pieces", 1, talk.state());
         int[] end = Other.last(0);
@@ -158,13 +158,13 @@ final class CharactersTest {
         Other.feed(talk, end[5]);
         CHECK.same("an empty last one ends it", 1007, talk.endCode());
         CHECK.same("and says so", Other.row(136, 2, 3, 239), Seen.out(talk));
-        FramedTalk anew = Other.open();
+        Talk anew = Other.open();
         int[] two = Other.joined(Other.last(1, 0xC3, 0xA9), Other.last(1, 'a'));
         CHECK.same("each text begins anew", 2, Other.feed(anew, two));
     }
 
     private static void noCheckForBytes() {
-        FramedTalk talk = Other.open();
+        Talk talk = Other.open();
         int[] all = new int[256];
         for (int i = 0; i < 256; i++) {
             all[i] = 255 - i;

@@ -40,10 +40,10 @@ final class Check {
     }
 
     /** The call fails with this exception and leaves all that can be seen of the talk as it was. */
-    void failsIdly(String what, Class<? extends RuntimeException> want, FramedTalk talk, Runnable call) {
-        String before = Seen.all(talk);
+    void failsIdly(String what, Class<? extends RuntimeException> want, Talk talk, Runnable call) {
+        String before = Seen.allAndDraft(talk);
         fails(what, want, call);
-        same(what + " changes nothing", before, Seen.all(talk));
+        same(what + " changes nothing", before, Seen.allAndDraft(talk));
     }
 
     static String thrownBy(Runnable call) {

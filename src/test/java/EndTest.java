@@ -24,7 +24,7 @@ final class EndTest {
 
     private static void everyCode() {
         for (int code = 0; code < 65536; code += code < 5300 ? 1 : 41) {
-            FramedTalk talk = Other.open();
+            Talk talk = Other.open();
             Other.feed(talk, Other.last(8, code >> 8, code & 255));
             int due = may(code) ? code : 1002;
             CHECK.same("CLOSE " + code + ": state", 3, talk.state());
@@ -46,7 +46,7 @@ final class EndTest {
     }
 
     private static void ends(String what, int code, int[] out, int... content) {
-        FramedTalk talk = Other.open();
+        Talk talk = Other.open();
         CHECK.same(what + ": delivers", 0, Other.feed(talk, Other.last(8, content)));
         CHECK.same(what + ": state", 3, talk.state());
         CHECK.same(what + ": end code", code, talk.endCode());
@@ -56,7 +56,7 @@ final class EndTest {
     private static void atItsLastByte() {
         int[][] contents = {{}, {9}, {3, 232}, {0, 0}, {3, 232, 0xFF, 'a'}, {3, 232, 'a', 'b'}, {0, 0, 'a'}};
         for (int[] content : contents) {
-            FramedTalk talk = Other.open();
+            Talk talk = Other.open();
             int[] bytes = Other.last(8, content);
             for (int i = 0; i < bytes.length; i++) {
                 CHECK.same("before byte " + i, "state 1, end 0, delivered 0, pongs 0, out ", Seen.all(talk));
@@ -64,7 +64,7 @@ final class EndTest {
             }
             CHECK.same("at the last byte", 3, talk.state());
         }
-        FramedTalk under = Other.open();
+        Talk under = Other.open();
         Other.feed(under, Other.joined(Other.notLast(1, 0xE2), Other.last(8, 3, 232, 0xC3, 0xA9)));
         CHECK.same("its text is none of the message's", 1000, under.endCode());
     }
@@ -73,7 +73,7 @@ final class EndTest {
         int[][] contents = {{}, {3, 233}, {3, 232, 'o', 'k'}, {7}, {0, 1}, {3, 232, 0x80}};
         int[] codes = {1005, 1001, 1000, 1002, 1002, 1007};
         for (int i = 0; i < codes.length; i++) {
-            FramedTalk talk = Other.open();
+            Talk talk = Other.open();
             talk.close(4000);
             CHECK.same("no end code yet", 0, talk.endCode());
             CHECK.same("closing", 2, talk.state());
@@ -86,7 +86,7 @@ final class EndTest {
     }
 
     private static void pings() {
-        FramedTalk talk = Other.open();
+        Talk talk = Other.open();
         Other.feed(talk, Other.joined(Other.last(9), Other.last(9, 255, 0, 128)));
         CHECK.same("pongs", Other.row(138, 0, 138, 3, 255, 0, 128), Seen.out(talk));
         CHECK.same("they are not counted", 0, talk.pongs());
@@ -104,9 +104,9 @@ final class EndTest {
     private static void pongsUpTo470() {
         for (int size : new int[] {0, 1, 68, 69, 125}) {
             for (int over = -1; over <= 2; over++) {
-                FramedTalk talk = Other.open();
+                Talk talk = Other.open();
                 int before = 470 - 2 - size + over;
-                fillByPongs(talk, before);
+                Other.fillOutByPongs(talk, before);
                 CHECK.same("filled", before, talk.outLength());
                 Other.feed(talk, Other.last(9, Other.many(size, 5)));
                 int due = over <= 0 ? before + 2 + size : before;
@@ -114,25 +114,14 @@ final class EndTest {
                 CHECK.same("it goes on", 1, talk.state());
             }
         }
-        FramedTalk talk = Other.open();
-        fillByPongs(talk, 470);
+        Talk talk = Other.open();
+        Other.fillOutByPongs(talk, 470);
         Other.feed(talk, Other.last(8, 3, 232));
         CHECK.same("the answer to a CLOSE is said however full OUT is", 474, talk.outLength());
-        FramedTalk wrong = Other.open();
-        fillByPongs(wrong, 470);
+        Talk wrong = Other.open();
+        Other.fillOutByPongs(wrong, 470);
         Other.feed(wrong, 0);
         CHECK.same("and a CLOSE for a violation", 474, wrong.outLength());
         CHECK.same("its code", 234, wrong.outAt(473));
-    }
-
-    private static void fillByPongs(FramedTalk talk, int n) {
-        for (int left = n; left > 0;) {
-            int here = left > 127 ? Math.min(127, left - 2) : left;
-            if (here == 1) {
-                throw new AssertionError("one byte can't be filled");
-            }
-            Other.feed(talk, Other.last(9, Other.many(here - 2, 'p')));
-            left -= here;
-        }
     }
 }

@@ -3,6 +3,7 @@ import java.util.Arrays;
 /** Promises 2, 3, 4 and 14: bytes that come in as frames, what violates and at which byte. */
 final class FeedTest {
     private static final Check CHECK = new Check("FeedTest");
+    private static final FrameCheck FRAME = new FrameCheck(CHECK);
     private static final int[] NONE = {};
 
     public static void main(String[] args) {
@@ -23,61 +24,34 @@ final class FeedTest {
         CHECK.end();
     }
 
-    /** The bytes violate at the last one and at none before it. */
-    private static void violates(String what, int code, int[] bytes) {
-        violatesIn(what, Other.open(), code, bytes);
-    }
-
-    private static void violatesIn(String what, FramedTalk talk, int code, int[] bytes) {
-        int[] outBefore = Seen.out(talk);
-        int stateBefore = talk.state();
-        Other.feed(talk, Arrays.copyOf(bytes, bytes.length - 1));
-        CHECK.same(what + ": state one byte before", stateBefore, talk.state());
-        CHECK.same(what + ": end code one byte before", 0, talk.endCode());
-        CHECK.same(what + ": out one byte before", outBefore, Seen.out(talk));
-        Other.feed(talk, bytes[bytes.length - 1]);
-        CHECK.same(what + ": state", 3, talk.state());
-        CHECK.same(what + ": end code", code, talk.endCode());
-        int[] said = stateBefore == 1 ? Other.row(136, 2, code >> 8, code & 255) : NONE;
-        CHECK.same(what + ": out", Other.joined(outBefore, said), Seen.out(talk));
-    }
-
-    private static void isFine(String what, int[] bytes) {
-        FramedTalk talk = Other.open();
-        Other.feed(talk, bytes);
-        CHECK.same(what + ": state", 1, talk.state());
-        CHECK.same(what + ": end code", 0, talk.endCode());
-        CHECK.same(what + ": out", NONE, Seen.out(talk));
-    }
-
     private static void arguments() {
         for (int n : new int[] {0, -1, 9, Integer.MIN_VALUE, Integer.MAX_VALUE, 16, 256 + 1}) {
-            FramedTalk fresh = new FramedTalk();
+            Talk fresh = new Talk();
             CHECK.failsIdly("feed n " + n, IllegalArgumentException.class, fresh, () -> fresh.feed(0, n));
-            FramedTalk open = Other.open();
+            Talk open = Other.open();
             CHECK.failsIdly("feed n " + n + " open", IllegalArgumentException.class, open, () -> open.feed(0, n));
-            FramedTalk closed = Other.asked("\r\n\r\n");
+            Talk closed = Other.asked("\r\n\r\n");
             CHECK.failsIdly("feed n " + n + " closed", IllegalArgumentException.class, closed, () -> closed.feed(0, n));
         }
         for (int n = 1; n <= 8; n++) {
             int here = n;
-            FramedTalk closed = Other.asked("\r\n\r\n");
+            Talk closed = Other.asked("\r\n\r\n");
             CHECK.failsIdly("feed when closed", IllegalStateException.class, closed, () -> closed.feed(-1, here));
         }
     }
 
     private static void order() {
-        FramedTalk talk = Other.open();
+        Talk talk = Other.open();
         CHECK.same("a BYTES in one call", 1, talk.feed(0xFE80000000008282L, 8));
         CHECK.same("its bytes", Other.row(0x80, 0xFE), Seen.message(talk, 0));
         for (int n = 1; n <= 8; n++) {
-            FramedTalk cut = Other.open();
+            Talk cut = Other.open();
             int[] bytes = Other.joined(Other.last(Other.BYTES, 1, 2, 3, 255, 0, 128, 127), Other.last(Other.TEXT));
             CHECK.same("cut by " + n, 2, Other.feedBy(n, cut, bytes));
             CHECK.same("cut by " + n, Other.row(1, 2, 3, 255, 0, 128, 127), Seen.message(cut, 0));
             CHECK.same("cut by " + n, NONE, Seen.message(cut, 1));
         }
-        FramedTalk noise = Other.open();
+        Talk noise = Other.open();
         noise.feed(0xFFFFFFFFFFFFFF82L, 1);
         noise.feed(0x7777777777770080L, 2);
         noise.feed(0xFFFFFFFF00000000L, 3);
@@ -94,21 +68,21 @@ final class FeedTest {
             boolean known = isShort || kind == 0 || kind == 1 || kind == 2;
             boolean always = !flag && known && (!isShort || last);
             if (always && kind != 0) {
-                isFine("first byte " + b, Other.row(b));
+                FRAME.isFine("first byte " + b, Other.row(b));
             } else {
-                violates("first byte " + b, 1002, Other.row(b));
+                FRAME.violates("first byte " + b, 1002, Other.row(b));
             }
             int[] begun = Other.joined(Other.notLast(2, 7), Other.row(b));
             if (always && kind != 1 && kind != 2) {
-                isFine("first byte under way " + b, begun);
+                FRAME.isFine("first byte under way " + b, begun);
             } else {
-                violates("first byte under way " + b, 1002, begun);
+                FRAME.violates("first byte under way " + b, 1002, begun);
             }
             int[] done = Other.joined(Other.notLast(1, 65), Other.last(0, 66), Other.row(b));
             if (always && kind != 0) {
-                isFine("first byte behind a message " + b, done);
+                FRAME.isFine("first byte behind a message " + b, done);
             } else {
-                violates("first byte behind a message " + b, 1002, done);
+                FRAME.violates("first byte behind a message " + b, 1002, done);
             }
         }
     }
@@ -118,27 +92,27 @@ final class FeedTest {
             for (int b = 0; b < 256; b++) {
                 String what = "kind " + kind + ", second byte " + b;
                 if (b < 128 || kind >= 8 && b - 128 > 125) {
-                    violates(what, 1002, Other.row(128 + kind, b));
+                    FRAME.violates(what, 1002, Other.row(128 + kind, b));
                 } else {
-                    isFine(what, Other.row(128 + kind, b));
+                    FRAME.isFine(what, Other.row(128 + kind, b));
                 }
             }
         }
         int[] full = Other.notLast(2, Other.many(300, 1));
-        violates("not masked and too long", 1002, Other.joined(full, Other.row(128, 5)));
+        FRAME.violates("not masked and too long", 1002, Other.joined(full, Other.row(128, 5)));
     }
 
     private static void lengthsInTwoBytes() {
         for (int n : new int[] {0, 1, 125}) {
-            violates("length in two bytes " + n, 1002, Other.row(0x82, 254, n >> 8, n & 255));
+            FRAME.violates("length in two bytes " + n, 1002, Other.row(0x82, 254, n >> 8, n & 255));
         }
         for (int n : new int[] {126, 127, 255, 256, 299, 300}) {
-            isFine("length in two bytes " + n, Other.row(0x82, 254, n >> 8, n & 255));
+            FRAME.isFine("length in two bytes " + n, Other.row(0x82, 254, n >> 8, n & 255));
         }
         for (int n : new int[] {301, 302, 512, 32767, 32768, 65535}) {
-            violates("length in two bytes " + n, 1009, Other.row(0x81, 254, n >> 8, n & 255));
+            FRAME.violates("length in two bytes " + n, 1009, Other.row(0x81, 254, n >> 8, n & 255));
         }
-        FramedTalk talk = Other.open();
+        Talk talk = Other.open();
         CHECK.same("300 bytes", 1, Other.feed(talk, Other.last(2, Other.many(300, 200))));
         CHECK.same("300 bytes", Other.many(300, 200), Seen.message(talk, 0));
     }
@@ -148,14 +122,14 @@ final class FeedTest {
         long[] highest = {Long.MIN_VALUE, -1, Long.MIN_VALUE + 65536, Long.MIN_VALUE + 10};
         long[] tooLong = {65536, 65537, 1L << 31, 1L << 32, (1L << 32) + 5, 1L << 56, Long.MAX_VALUE};
         for (long n : tooSmall) {
-            violates("length in eight bytes " + n, 1002, inEight(n));
+            FRAME.violates("length in eight bytes " + n, 1002, inEight(n));
         }
         for (long n : highest) {
-            violates("length in eight bytes " + n, 1002, inEight(n));
+            FRAME.violates("length in eight bytes " + n, 1002, inEight(n));
         }
         for (long n : tooLong) {
-            violates("length in eight bytes " + n, 1009, inEight(n));
-            violates("length in eight bytes of a MORE " + n, 1009, Other.joined(Other.notLast(2, 1),
+            FRAME.violates("length in eight bytes " + n, 1009, inEight(n));
+            FRAME.violates("length in eight bytes of a MORE " + n, 1009, Other.joined(Other.notLast(2, 1),
                     Other.row(128), Arrays.copyOfRange(inEight(n), 1, 10)));
         }
     }
@@ -175,23 +149,23 @@ final class FeedTest {
             int[] begun = Other.notLast(2, Other.many(first, 9));
             int left = 300 - first;
             if (left < 125) {
-                violates("one too many behind " + first, 1009, Other.joined(begun, Other.row(128, 128 + left + 1)));
+                FRAME.violates("one too many behind " + first, 1009, Other.joined(begun, Other.row(128, 128 + left + 1)));
             } else {
                 int n = left + 1;
-                violates("one too many behind " + first, 1009,
+                FRAME.violates("one too many behind " + first, 1009,
                         Other.joined(begun, Other.row(0, left + 1 < 126 ? 128 + n : 254),
                                 n < 126 ? NONE : Other.row(n >> 8, n & 255)));
             }
-            FramedTalk talk = Other.open();
+            Talk talk = Other.open();
             CHECK.same("just 300 with " + first, 1,
                     Other.feed(talk, Other.joined(begun, Other.last(0, Other.many(left, 8)))));
             CHECK.same("just 300 with " + first, 300, talk.length(0));
         }
-        FramedTalk talk = Other.open();
+        Talk talk = Other.open();
         Other.feed(talk, Other.last(2, Other.many(250, 1)));
         CHECK.same("the next message counts anew", 1, Other.feed(talk, Other.last(2, Other.many(250, 2))));
         int[] full = Other.notLast(2, Other.many(300, 1));
-        FramedTalk between = Other.open();
+        Talk between = Other.open();
         CHECK.same("short ones do not count", 1, Other.feed(between,
                 Other.joined(full, Other.last(Other.PONG, Other.many(125, 1)), Other.last(0))));
     }
@@ -207,18 +181,18 @@ final class FeedTest {
             plain[i] = 23 * i + 5;
             frame[6 + i] = plain[i] ^ mask[i % 4];
         }
-        FramedTalk talk = Other.open();
+        Talk talk = Other.open();
         Other.feed(talk, Other.joined(frame, frame, Other.last(2, plain)));
         for (int k = 0; k < 3; k++) {
             CHECK.same("masked", plain, Seen.message(talk, k));
         }
-        FramedTalk pieces = Other.open();
+        Talk pieces = Other.open();
         Other.feed(pieces, Other.joined(Other.notLast(2, 1, 2, 3), Other.last(0, 4, 5, 6)));
         CHECK.same("the mask begins anew in each frame", Other.row(1, 2, 3, 4, 5, 6), Seen.message(pieces, 0));
     }
 
     private static void pieces() {
-        FramedTalk talk = Other.open();
+        Talk talk = Other.open();
         CHECK.same("a piece", 0, Other.feed(talk, Other.notLast(1, 'a', 'b')));
         CHECK.same("none waits", 0, talk.messages());
         CHECK.same("a piece more", 0, Other.feed(talk, Other.notLast(0, 'c')));
@@ -233,14 +207,14 @@ final class FeedTest {
     }
 
     private static void twoInOneCall() {
-        FramedTalk talk = Other.open();
+        Talk talk = Other.open();
         int[] two = Other.joined(Other.last(2), Other.last(1));
         CHECK.same("up to the last byte of the first", 0, Other.feed(talk, Arrays.copyOf(two, 5)));
         CHECK.same("both in one call", 2, Other.feed(talk, Arrays.copyOfRange(two, 5, 12)));
     }
 
     private static void shortOnesBetween() {
-        FramedTalk talk = Other.open();
+        Talk talk = Other.open();
         int n = Other.feed(talk, Other.joined(Other.notLast(1, 0xC3), Other.last(9, 1, 0xFF), Other.last(10, 200),
                 Other.last(0, 0xA9)));
         CHECK.same("short ones between", 1, n);
@@ -253,7 +227,7 @@ final class FeedTest {
     }
 
     private static void pongsCount() {
-        FramedTalk talk = Other.open();
+        Talk talk = Other.open();
         CHECK.same("no pongs", 0, talk.pongs());
         Other.feed(talk, Other.joined(Other.last(10), Other.last(9, 5), Other.last(10, Other.many(125, 255))));
         CHECK.same("two pongs", 2, talk.pongs());
@@ -272,30 +246,30 @@ final class FeedTest {
     private static void violationsWhenClosing() {
         int[][] wrong = {{0x83}, {0x81, 5}, {0x82, 254, 0, 1}, {0x89, 254}, {0x80}};
         for (int[] bytes : wrong) {
-            FramedTalk talk = Other.open();
+            Talk talk = Other.open();
             talk.close(3000);
-            violatesIn("closing, " + Arrays.toString(bytes), talk, 1002, bytes);
+            FRAME.violatesIn("closing, " + Arrays.toString(bytes), talk, 1002, bytes);
         }
-        FramedTalk tooLong = Other.open();
+        Talk tooLong = Other.open();
         tooLong.close(3000);
-        violatesIn("closing, too long", tooLong, 1009, Other.row(0x81, 254, 2, 0));
-        FramedTalk noText = Other.open();
+        FRAME.violatesIn("closing, too long", tooLong, 1009, Other.row(0x81, 254, 2, 0));
+        Talk noText = Other.open();
         noText.close(3000);
-        violatesIn("closing, no text", noText, 1007, Other.row(0x81, 0x82, 0, 0, 0, 0, 0xC0));
-        FramedTalk full = Other.open();
+        FRAME.violatesIn("closing, no text", noText, 1007, Other.row(0x81, 0x82, 0, 0, 0, 0, 0xC0));
+        Talk full = Other.open();
         Other.fillOut(full, 400);
-        violatesIn("OUT is full", full, 1002, Other.row(0x83));
+        FRAME.violatesIn("OUT is full", full, 1002, Other.row(0x83));
     }
 
     private static void bytesBehindTheEnd() {
-        FramedTalk talk = Other.open();
+        Talk talk = Other.open();
         CHECK.same("bytes behind a violation", 0, talk.feed(0x00000000808282F0L, 8));
         CHECK.same("are lost", "state 3, end 1002, delivered 0, pongs 0, out 136 2 3 234 ", Seen.all(talk));
-        FramedTalk closed = Other.open();
+        Talk closed = Other.open();
         int[] bytes = Other.joined(Other.last(8), Other.last(1));
         CHECK.same("bytes behind a CLOSE", 0, Other.feed(closed, bytes));
         CHECK.same("are lost", "state 3, end 1005, delivered 0, pongs 0, out 136 0 ", Seen.all(closed));
-        FramedTalk kept = Other.open();
+        Talk kept = Other.open();
         Other.feed(kept, Other.joined(Other.last(1, 'x'), Other.row(0xFF)));
         CHECK.same("messages stay when it ends", 'x', kept.byteAt(0, 0));
         CHECK.same("and can be taken", 1, kept.take());

@@ -339,6 +339,56 @@ final class Model {
         return state;
     }
 
+    int endCode() {
+        return endCode;
+    }
+
+    int outLength() {
+        return out.size();
+    }
+
+    int outAt(int i) {
+        if (i < 0 || i >= out.size()) {
+            throw new IndexOutOfBoundsException();
+        }
+        return out.get(i);
+    }
+
+    int messages() {
+        return waiting.size();
+    }
+
+    int delivered() {
+        return delivered;
+    }
+
+    int pongs() {
+        return pongs;
+    }
+
+    int kind(int k) {
+        return kinds.get(existing(k));
+    }
+
+    int length(int k) {
+        return waiting.get(existing(k)).size();
+    }
+
+    int byteAt(int k, int i) {
+        List<Integer> content = waiting.get(existing(k));
+        if (i < 0 || i >= content.size()) {
+            throw new IndexOutOfBoundsException();
+        }
+        return content.get(i);
+    }
+
+    private int existing(int k) {
+        if (k < 0 || k >= waiting.size()) {
+            throw new NoSuchElementException();
+        }
+        return k;
+    }
+
     /** As Seen.all tells it of a talk. */
     String all() {
         StringBuilder seen = new StringBuilder();

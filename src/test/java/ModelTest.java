@@ -6,14 +6,16 @@ import java.util.concurrent.Callable;
 /** All promises: runs of up to 512 calls made by chance (from fixed seeds), against the model. */
 final class ModelTest {
     private static final Check CHECK = new Check("ModelTest");
-    private static final int RUNS = 2500;
+    private static final int RUNS = 4000;
+    private static final int CALLS_FOR_A_LOOK = 100;
+    private static final int CALLS_BEHIND_THE_END = 15;
     private static final String[] TEXTS = {"", "a", "hello", "\u00e9", "\u20ac\u20ac", "\ud83d\ude00", "x\u0800y"};
     private static final int[] CODES = {
         1000, 1000, 1000, 1001, 1003, 1004, 1005, 1007, 1011, 1012, 2999, 3000, 4999, 5000, 0, 65535,
     };
 
     private final Random random;
-    private final FramedTalk talk = new FramedTalk();
+    private final Talk talk = new Talk();
     private final Model model = new Model();
     private final List<Integer> coming = new ArrayList<>();
     private final StringBuilder calls = new StringBuilder();
@@ -43,36 +45,87 @@ final class ModelTest {
 
     private void run() {
         addRequest();
-        int n = 512;
-        for (int i = 0; i < n && isFine; i++) {
+        int callsBehindTheEnd = 0;
+        while (talk.callsLeft() > 0 && isFine && callsBehindTheEnd < CALLS_BEHIND_THE_END) {
             step();
+            callsBehindTheEnd += model.state() == 3 ? 1 : 0;
+            boolean mayLook = talk.callsLeft() >= CALLS_FOR_A_LOOK;
+            if (isFine && mayLook && (callsBehindTheEnd == CALLS_BEHIND_THE_END || random.nextInt(60) == 0)) {
+                lookAtAll();
+            }
         }
         STATES[model.state()]++;
-        ENDS[Math.min(5000, talk.endCode())]++;
+        ENDS[Math.min(5000, model.endCode())]++;
     }
 
     private void step() {
         int chance = random.nextInt(100);
-        if (model.state() == 0 || chance < 60) {
+        if (model.state() == 0 || chance < 50) {
             feed();
-        } else if (chance < 68) {
-            int n = random.nextInt(12) == 0 ? edge(talk.outLength()) : random.nextInt(talk.outLength() + 1);
+        } else if (chance < 55) {
+            int n = random.nextInt(12) == 0 ? edge(model.outLength()) : random.nextInt(model.outLength() + 1);
             both("drop " + n, () -> talk.drop(n), () -> model.drop(n));
-        } else if (chance < 74) {
+        } else if (chance < 59) {
             both("take", talk::take, model::take);
-        } else if (chance < 86) {
+        } else if (chance < 67) {
             write();
-        } else if (chance < 88) {
+        } else if (chance < 68) {
             both("clear", () -> { talk.clear(); return 0; }, () -> { model.clear(); return 0; });
-        } else if (chance < 94) {
+        } else if (chance < 72) {
             int kind = random.nextInt(12) == 0 ? random.nextInt(12) - 1 : 1 + random.nextInt(2);
             int size = random.nextInt(6) == 0 ? edge(100) : random.nextInt(12);
             both("send " + kind + " " + size, () -> talk.send(kind, size), () -> model.send(kind, size));
-        } else if (chance < 98) {
+        } else if (chance < 75) {
             both("ping", () -> { talk.ping(); return 0; }, () -> { model.ping(); return 0; });
-        } else if (random.nextInt(6) == 0) {
+        } else if (chance < 76) {
+            close();
+        } else {
+            look();
+        }
+    }
+
+    private void close() {
+        if (random.nextInt(4) == 0) {
             int code = CODES[random.nextInt(CODES.length)];
             both("close " + code, () -> { talk.close(code); return 0; }, () -> { model.close(code); return 0; });
+        }
+    }
+
+    private void look() {
+        int k = random.nextInt(6) == 0 ? edge(model.messages()) : random.nextInt(model.messages() + 1);
+        switch (random.nextInt(10)) {
+            case 0:
+                both("state", talk::state, model::state);
+                break;
+            case 1:
+                both("endCode", talk::endCode, model::endCode);
+                break;
+            case 2:
+                both("outLength", talk::outLength, model::outLength);
+                break;
+            case 3:
+                both("messages", talk::messages, model::messages);
+                break;
+            case 4:
+                both("delivered", talk::delivered, model::delivered);
+                break;
+            case 5:
+                both("pongs", talk::pongs, model::pongs);
+                break;
+            case 6:
+                both("kind " + k, () -> talk.kind(k), () -> model.kind(k));
+                break;
+            case 7:
+                both("length " + k, () -> talk.length(k), () -> model.length(k));
+                break;
+            case 8:
+                int at = random.nextInt(6) == 0 ? edge(model.outLength()) : random.nextInt(model.outLength() + 1);
+                both("outAt " + at, () -> talk.outAt(at), () -> model.outAt(at));
+                break;
+            default:
+                int size = k >= 0 && k < model.messages() ? model.length(k) : 0;
+                int i = random.nextInt(6) == 0 ? edge(size) : random.nextInt(size + 1);
+                both("byteAt " + k + " " + i, () -> talk.byteAt(k, i), () -> model.byteAt(k, i));
         }
     }
 
@@ -107,13 +160,16 @@ final class ModelTest {
 
     private void both(String call, Callable<Object> real, Callable<Object> due) {
         calls.append(call).append("; ");
-        String want = answer(due);
-        String got = answer(real);
-        String wantAll = model.all();
-        String gotAll = Seen.all(talk);
-        isFine = want.equals(got) && wantAll.equals(gotAll);
-        CHECK.same(isFine ? call : calls.toString(), want, got);
-        CHECK.same(isFine ? call : calls.toString(), wantAll, gotAll);
+        compare(call, answer(due), answer(real));
+    }
+
+    private void lookAtAll() {
+        compare("all", model.all(), Seen.all(talk));
+    }
+
+    private void compare(String what, String want, String got) {
+        isFine = want.equals(got);
+        CHECK.same(isFine ? what : calls + what, want, got);
     }
 
     private static String answer(Callable<Object> call) {

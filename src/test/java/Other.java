@@ -100,52 +100,58 @@ final class Other {
     }
 
     /** Feeds the bytes eight at a time, as long as the talk is not closed. */
-    static int feed(FramedTalk talk, int... bytes) {
+    static int feed(Talk talk, int... bytes) {
         return feedBy(8, talk, bytes);
     }
 
-    static int feedBy(int most, FramedTalk talk, int... bytes) {
+    static int feedBy(int most, Talk talk, int... bytes) {
         int messages = 0;
         for (int from = 0; from < bytes.length && talk.state() != 3; from += most) {
             int n = Math.min(most, bytes.length - from);
-            long w = 0;
-            for (int i = 0; i < n; i++) {
-                w |= (long) bytes[from + i] << (8 * i);
-            }
-            messages += talk.feed(w, n);
+            messages += talk.feed(wordOf(bytes, from, n), n);
         }
         return messages;
     }
 
-    static FramedTalk asked(String request) {
-        FramedTalk talk = new FramedTalk();
+    /** n of the bytes as they are fed or written: the first one lowest. */
+    static long wordOf(int[] bytes, int from, int n) {
+        long w = 0;
+        for (int i = 0; i < n; i++) {
+            w |= (long) bytes[from + i] << (8 * i);
+        }
+        return w;
+    }
+
+    static Talk asked(String request) {
+        Talk talk = new Talk();
         feed(talk, codes(request));
         return talk;
     }
 
     /** A talk that is open and has nothing in OUT. */
-    static FramedTalk open() {
-        FramedTalk talk = asked(request(GOOD));
+    static Talk open() {
+        Talk talk = asked(request(GOOD));
         talk.drop(talk.outLength());
         return talk;
     }
 
-    static void write(FramedTalk talk, int... bytes) {
-        for (int b : bytes) {
-            if (!talk.write(b, 1)) {
+    static void write(Talk talk, int... bytes) {
+        for (int from = 0; from < bytes.length; from += 8) {
+            int n = Math.min(8, bytes.length - from);
+            if (!talk.write(wordOf(bytes, from, n), n)) {
                 throw new AssertionError("the draft is full");
             }
         }
     }
 
-    static FramedTalk openWithDraft(int... draft) {
-        FramedTalk talk = open();
+    static Talk openWithDraft(int... draft) {
+        Talk talk = open();
         write(talk, draft);
         return talk;
     }
 
     /** Puts n bytes behind OUT, which is open and has no draft: PINGs of at most 100 bytes. */
-    static void fillOut(FramedTalk talk, int n) {
+    static void fillOut(Talk talk, int n) {
         for (int left = n; left > 0;) {
             int here = left > 102 ? Math.min(102, left - 2) : left;
             talk.clear();
@@ -154,5 +160,14 @@ final class Other {
             left -= here;
         }
         talk.clear();
+    }
+
+    /** The same by PINGs that come in, which may fill it up to 470 bytes. */
+    static void fillOutByPongs(Talk talk, int n) {
+        for (int left = n; left > 0;) {
+            int here = left > 127 ? Math.min(127, left - 2) : left;
+            feed(talk, last(PING, many(here - 2, 'p')));
+            left -= here;
+        }
     }
 }

@@ -16,10 +16,10 @@ final class OutAndInboxTest {
     }
 
     private static void outAt() {
-        FramedTalk fresh = new FramedTalk();
+        Talk fresh = new Talk();
         CHECK.same("nothing in OUT", 0, fresh.outLength());
         CHECK.failsIdly("outAt(0) of none", IndexOutOfBoundsException.class, fresh, () -> fresh.outAt(0));
-        FramedTalk talk = Other.openWithDraft(0, 127, 128, 255);
+        Talk talk = Other.openWithDraft(0, 127, 128, 255);
         talk.ping();
         CHECK.same("out", Other.row(137, 4, 0, 127, 128, 255), Seen.out(talk));
         CHECK.failsIdly("outAt(6)", IndexOutOfBoundsException.class, talk, () -> talk.outAt(6));
@@ -29,7 +29,7 @@ final class OutAndInboxTest {
     }
 
     private static void drop() {
-        FramedTalk talk = Other.openWithDraft(1, 2, 3, 4);
+        Talk talk = Other.openWithDraft(1, 2, 3, 4);
         talk.ping();
         String before = Seen.all(talk);
         for (int n : new int[] {-1, 7, 8, Integer.MIN_VALUE, Integer.MAX_VALUE}) {
@@ -48,11 +48,11 @@ final class OutAndInboxTest {
         CHECK.same("nothing left", 0, talk.outLength());
         CHECK.same("drop 1 of none", false, talk.drop(1));
         CHECK.same("drop 0 of none", true, talk.drop(0));
-        CHECK.same("a new object drops 0", true, new FramedTalk().drop(0));
-        CHECK.same("and no more", false, new FramedTalk().drop(1));
+        CHECK.same("a new object drops 0", true, new Talk().drop(0));
+        CHECK.same("and no more", false, new Talk().drop(1));
     }
 
-    private static void hasNot(FramedTalk talk, int k) {
+    private static void hasNot(Talk talk, int k) {
         CHECK.failsIdly("kind " + k, NoSuchElementException.class, talk, () -> talk.kind(k));
         CHECK.failsIdly("length " + k, NoSuchElementException.class, talk, () -> talk.length(k));
         CHECK.failsIdly("byteAt " + k, NoSuchElementException.class, talk, () -> talk.byteAt(k, 0));
@@ -61,7 +61,7 @@ final class OutAndInboxTest {
     }
 
     private static void noMessages() {
-        for (FramedTalk talk : new FramedTalk[] {new FramedTalk(), Other.open(), Other.asked("\r\n\r\n")}) {
+        for (Talk talk : new Talk[] {new Talk(), Other.open(), Other.asked("\r\n\r\n")}) {
             CHECK.same("messages", 0, talk.messages());
             CHECK.same("delivered", 0, talk.delivered());
             hasNot(talk, 0);
@@ -73,7 +73,7 @@ final class OutAndInboxTest {
     }
 
     private static void messages() {
-        FramedTalk talk = Other.open();
+        Talk talk = Other.open();
         Other.feed(talk, Other.joined(Other.last(1, 'a', 'b'), Other.last(2), Other.last(2, 0, 128, 255)));
         CHECK.same("messages", 3, talk.messages());
         CHECK.same("kinds", Other.row(1, 2, 2), Other.row(talk.kind(0), talk.kind(1), talk.kind(2)));
@@ -101,7 +101,7 @@ final class OutAndInboxTest {
     }
 
     private static void lostOnes() {
-        FramedTalk talk = Other.open();
+        Talk talk = Other.open();
         for (int i = 0; i < 4; i++) {
             CHECK.same("delivers", 1, Other.feed(talk, Other.last(2, Other.many(i + 1, i))));
         }
@@ -121,15 +121,16 @@ final class OutAndInboxTest {
     }
 
     private static void manyMessages() {
-        FramedTalk talk = Other.open();
+        Talk talk = Other.open();
         int next = 0;
         int oldest = 0;
-        for (int step = 0; step < 40; step++) {
-            for (int i = 0; i <= step % 3 && talk.messages() < 4; i++) {
+        for (int step = 0; step < 30; step++) {
+            for (int i = 0; i <= step % 3 && next - oldest < 4; i++) {
                 Other.feed(talk, Other.last(1 + next % 2, Other.many(next % 5, next)));
                 next++;
             }
-            for (int k = 0; k < talk.messages(); k++) {
+            CHECK.same("messages", next - oldest, talk.messages());
+            for (int k = 0; k < next - oldest; k++) {
                 CHECK.same("message " + k, Other.many((oldest + k) % 5, oldest + k), Seen.message(talk, k));
                 CHECK.same("kind " + k, 1 + (oldest + k) % 2, talk.kind(k));
             }

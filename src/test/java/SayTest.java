@@ -19,7 +19,7 @@ final class SayTest {
         CHECK.end();
     }
 
-    private static int[] draftOf(FramedTalk talk) {
+    private static int[] draftOf(Talk talk) {
         talk.drop(talk.outLength());
         talk.ping();
         int[] out = Seen.out(talk);
@@ -28,7 +28,7 @@ final class SayTest {
     }
 
     private static void write() {
-        FramedTalk talk = Other.open();
+        Talk talk = Other.open();
         CHECK.same("no draft", Other.row(), draftOf(talk));
         CHECK.same("write", true, talk.write(0x8877665544332211L, 8));
         CHECK.same("draft", Other.row(0x11, 0x22, 0x33, 0x44, 0x55, 0x66, 0x77, 0x88), draftOf(talk));
@@ -52,14 +52,14 @@ final class SayTest {
     private static void writeUpTo100() {
         for (int n = 1; n <= 8; n++) {
             for (int over = 0; over <= n; over++) {
-                FramedTalk talk = Other.openWithDraft(Other.many(100 - n + over, 'd'));
+                Talk talk = Other.openWithDraft(Other.many(100 - n + over, 'd'));
                 CHECK.same("write " + n + " over " + over, over == 0, talk.write(0, n));
                 int[] due = over == 0 ? Other.joined(Other.many(100 - n, 'd'), Other.many(n, 0))
                         : Other.many(100 - n + over, 'd');
                 CHECK.same("draft", due, draftOf(talk));
             }
         }
-        FramedTalk asked = new FramedTalk();
+        Talk asked = new Talk();
         CHECK.same("write when asked", true, asked.write('x', 1));
         Other.feed(asked, Other.codes(Other.request(Other.GOOD)));
         CHECK.same("it stays", Other.row('x'), draftOf(asked));
@@ -69,7 +69,7 @@ final class SayTest {
     }
 
     private static void clear() {
-        FramedTalk talk = Other.openWithDraft(Other.many(100, 1));
+        Talk talk = Other.openWithDraft(Other.many(100, 1));
         talk.ping();
         String before = Seen.all(talk);
         talk.clear();
@@ -82,17 +82,17 @@ final class SayTest {
     }
 
     private static void sendInOneFrame() {
-        FramedTalk talk = Other.openWithDraft('h', 'i');
+        Talk talk = Other.openWithDraft('h', 'i');
         CHECK.same("send", 1, talk.send(1, 0));
         CHECK.same("out", Other.row(129, 2, 'h', 'i'), Seen.out(talk));
         CHECK.same("the draft stays", 1, talk.send(2, 2));
         CHECK.same("out", Other.row(129, 2, 'h', 'i', 130, 2, 'h', 'i'), Seen.out(talk));
         for (int size : new int[] {0, 1, 100}) {
-            FramedTalk empty = Other.open();
+            Talk empty = Other.open();
             CHECK.same("an empty draft", 1, empty.send(1, size));
             CHECK.same("out", Other.row(129, 0), Seen.out(empty));
         }
-        FramedTalk full = Other.openWithDraft(Other.many(100, 'x'));
+        Talk full = Other.openWithDraft(Other.many(100, 'x'));
         CHECK.same("100 bytes", 1, full.send(1, 100));
         CHECK.same("out", Other.joined(Other.row(129, 100), Other.many(100, 'x')), Seen.out(full));
         CHECK.same("the talk stays as it is", 1, full.state());
@@ -110,13 +110,13 @@ final class SayTest {
                 if (n > 60 && size % 7 != 0 && size != n && size != n - 1) {
                     continue;
                 }
-                FramedTalk talk = Other.openWithDraft(here);
+                Talk talk = Other.openWithDraft(here);
                 int frames = Math.max(1, (int) Math.ceil(n / (double) size));
                 CHECK.same("send " + n + " by " + size, frames, talk.send(2, size));
                 CHECK.same("send " + n + " by " + size, cut(here, size), Seen.out(talk));
             }
         }
-        FramedTalk text = Other.openWithDraft(Other.text("a\u00e9\u20acb"));
+        Talk text = Other.openWithDraft(Other.text("a\u00e9\u20acb"));
         CHECK.same("characters may be cut", 7, text.send(1, 1));
         CHECK.same("out", Other.row(1, 1, 'a', 0, 1, 0xC3, 0, 1, 0xA9, 0, 1, 0xE2, 0, 1, 0x82, 0, 1, 0xAC, 128, 1, 'b'),
                 Seen.out(text));
@@ -139,10 +139,10 @@ final class SayTest {
     }
 
     private static void sendArguments() {
-        FramedTalk[] talks = {new FramedTalk(), Other.open(), Other.open(), Other.asked("\r\n\r\n"), Other.open()};
+        Talk[] talks = {new Talk(), Other.open(), Other.open(), Other.asked("\r\n\r\n"), Other.open()};
         talks[2].close(1000);
         Other.fillOut(talks[4], 400);
-        for (FramedTalk talk : talks) {
+        for (Talk talk : talks) {
             for (int kind : new int[] {0, 3, -1, 8, 9, 129, Integer.MIN_VALUE, Integer.MAX_VALUE}) {
                 CHECK.failsIdly("send kind " + kind, IllegalArgumentException.class, talk, () -> talk.send(kind, 0));
             }
@@ -162,7 +162,7 @@ final class SayTest {
         for (int size : new int[] {0, 1, 3, 7, 10}) {
             int frames = size == 0 ? 1 : (10 + size - 1) / size;
             for (int over = -1; over <= 2; over++) {
-                FramedTalk talk = Other.open();
+                Talk talk = Other.open();
                 int before = 400 - (10 + 2 * frames) + over;
                 Other.fillOut(talk, before);
                 Other.write(talk, Other.many(10, 'x'));
@@ -174,7 +174,7 @@ final class SayTest {
                 }
             }
         }
-        FramedTalk empty = Other.open();
+        Talk empty = Other.open();
         Other.fillOut(empty, 398);
         CHECK.same("an empty one", 1, empty.send(1, 5));
         CHECK.failsIdly("no more", IllegalStateException.class, empty, () -> empty.send(1, 5));
@@ -183,7 +183,7 @@ final class SayTest {
     }
 
     private static void ping() {
-        FramedTalk talk = Other.open();
+        Talk talk = Other.open();
         talk.ping();
         CHECK.same("out", Other.row(137, 0), Seen.out(talk));
         Other.write(talk, 0xFF, 0);
@@ -193,7 +193,7 @@ final class SayTest {
         CHECK.same("the draft stays", 10, talk.outLength());
         CHECK.same("the state, too", 1, talk.state());
         CHECK.same("it is no pong", 0, talk.pongs());
-        FramedTalk full = Other.openWithDraft(Other.many(100, 1));
+        Talk full = Other.openWithDraft(Other.many(100, 1));
         full.ping();
         CHECK.same("100 bytes", Other.joined(Other.row(137, 100), Other.many(100, 1)), Seen.out(full));
     }
@@ -201,7 +201,7 @@ final class SayTest {
     private static void pingUpTo400() {
         for (int size : new int[] {0, 1, 99, 100}) {
             for (int over = -1; over <= 2; over++) {
-                FramedTalk talk = Other.open();
+                Talk talk = Other.open();
                 int before = 398 - size + over;
                 Other.fillOut(talk, before);
                 Other.write(talk, Other.many(size, 'x'));
@@ -216,10 +216,10 @@ final class SayTest {
     }
 
     private static void close() {
-        FramedTalk talk = Other.open();
+        Talk talk = Other.open();
         talk.close(1000);
         CHECK.same("close", "state 2, end 0, delivered 0, pongs 0, out 136 2 3 232 ", Seen.all(talk));
-        FramedTalk reason = Other.openWithDraft(Other.text("b\u00e9"));
+        Talk reason = Other.openWithDraft(Other.text("b\u00e9"));
         reason.close(4999);
         CHECK.same("with a reason", Other.row(136, 5, 19, 135, 'b', 0xC3, 0xA9), Seen.out(reason));
         CHECK.same("closing", 2, reason.state());
@@ -232,7 +232,7 @@ final class SayTest {
     }
 
     private static void closeWith(int code, boolean may) {
-        FramedTalk talk = Other.open();
+        Talk talk = Other.open();
         if (may) {
             talk.close(code);
             CHECK.same("close " + code, Other.row(136, 2, code >> 8, code & 255), Seen.out(talk));
@@ -242,10 +242,10 @@ final class SayTest {
     }
 
     private static void closeArguments() {
-        FramedTalk closing = Other.open();
+        Talk closing = Other.open();
         closing.close(1000);
-        FramedTalk[] talks = {new FramedTalk(), Other.open(), closing, Other.asked("\r\n\r\n")};
-        for (FramedTalk talk : talks) {
+        Talk[] talks = {new Talk(), Other.open(), closing, Other.asked("\r\n\r\n")};
+        for (Talk talk : talks) {
             for (int code : new int[] {0, -1, 999, 1004, 1005, 1006, 1012, 2999, 5000, 65536 + 1000,
                 Integer.MIN_VALUE, Integer.MAX_VALUE}) {
                 CHECK.failsIdly("close " + code, IllegalArgumentException.class, talk, () -> talk.close(code));
@@ -259,7 +259,7 @@ final class SayTest {
     }
 
     private static void closeHoweverFull() {
-        FramedTalk talk = Other.open();
+        Talk talk = Other.open();
         Other.fillOut(talk, 400);
         Other.feed(talk, Other.last(9, Other.many(68, 'p')));
         CHECK.same("OUT is full", 470, talk.outLength());
@@ -274,11 +274,11 @@ final class SayTest {
     }
 
     private static void notOpen() {
-        FramedTalk closing = Other.open();
+        Talk closing = Other.open();
         closing.close(1000);
-        FramedTalk over = Other.open();
+        Talk over = Other.open();
         Other.feed(over, Other.last(8));
-        for (FramedTalk talk : new FramedTalk[] {new FramedTalk(), closing, over, Other.asked("\r\n\r\n")}) {
+        for (Talk talk : new Talk[] {new Talk(), closing, over, Other.asked("\r\n\r\n")}) {
             CHECK.failsIdly("send 1", IllegalStateException.class, talk, () -> talk.send(1, 0));
             CHECK.failsIdly("send 2", IllegalStateException.class, talk, () -> talk.send(2, 100));
             CHECK.failsIdly("ping", IllegalStateException.class, talk, talk::ping);
