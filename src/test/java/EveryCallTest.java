@@ -91,6 +91,8 @@ final class EveryCallTest {
         refuses(IllegalArgumentException.class, () -> talk.close(1000));
         refuseAll(talk);
         CHECK.same("all is the same", before, Seen.allAndDraft(talk));
+        talk.clear();
+        CHECK.same("and a draft without bytes is a text", 1, talk.send(1, 0));
     }
 
     // A call that throws, or is refused, changes nothing (when OUT is full, and when the talk is over)

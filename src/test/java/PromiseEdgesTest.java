@@ -270,6 +270,12 @@ final class PromiseEdgesTest {
         Talk refused = refused();
         CHECK.same("when refused", true, refused.drop(28));
         CHECK.same("when asked", true, new Talk().drop(0));
+        Talk full = Other.openWithDraft(Other.many(100, 'x'));
+        Other.fillOutByPongs(full, 470);
+        full.close(1000);
+        CHECK.same("one of the most there can be", true, full.drop(1));
+        CHECK.same("the first is gone", 'p', full.outAt(1));
+        CHECK.same("and the rest", true, full.drop(573));
         CHECK.same("when closing", true, closing().drop(4));
     }
 

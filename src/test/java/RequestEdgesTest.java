@@ -97,6 +97,8 @@ final class RequestEdgesTest {
             REQUEST.notEnded(Arrays.toString(Other.codes(begun)), "x" + begun);
         }
         REQUEST.bad("nothing before its end", "\r\n\r\n");
+        REQUEST.bad("an LF before its end", "\n\r\n\r\n");
+        REQUEST.bad("an LF and CR LF before its end", "\n\r\nx\r\n\r\n");
         Talk talk = new Talk();
         int[] ping = Other.last(Other.PING);
         Other.feed(talk, Other.joined(Other.codes(Other.request(Other.GOOD)), ping));
@@ -225,6 +227,7 @@ final class RequestEdgesTest {
     private static void singleCrOrLf() {
         for (String single : new String[] {"\r", "\n", "\r\r", "\n\n", "\n\r"}) {
             String what = Arrays.toString(Other.codes(single));
+            REQUEST.bad(what + " before the first line", single + Other.request(Other.GOOD));
             REQUEST.bad(what + " in the first line", Other.requestWith(0, "GET /" + single + " HTTP/1.1"));
             REQUEST.bad(what + " in a name", Other.requestAnd("x" + single + "y: a"));
             REQUEST.bad(what + " before a name", Other.requestAnd(single + "x: a"));
@@ -270,8 +273,8 @@ final class RequestEdgesTest {
         for (int i = 1; i < Other.GOOD.length; i++) {
             String name = Other.GOOD[i].substring(0, Other.GOOD[i].indexOf(':'));
             String rest = Other.GOOD[i].substring(name.length());
-            for (String other : new String[] {name + "-", "-" + name, name.substring(1),
-                name.substring(0, name.length() - 1)}) {
+            for (String other : new String[] {name + "-", "-" + name, name.substring(1), "X" + name.substring(1),
+                name.substring(0, name.length() - 1), name.substring(0, name.length() - 1) + "X"}) {
                 REQUEST.good("also " + other, Other.requestAnd(other + rest));
                 REQUEST.bad("only " + other, Other.requestWith(i, other + rest));
             }
@@ -292,7 +295,8 @@ final class RequestEdgesTest {
         for (String value : new String[] {"websocket", "WEBSOCKET", "WebSocket", "h2c, websocket", "websocket, h2c"}) {
             REQUEST.good("upgrade " + value, Other.requestWith(2, "Upgrade: " + value));
         }
-        for (String value : new String[] {"", "websocke", "websockets", "upgrade", "web-socket", "h2c", "websocket1"}) {
+        for (String value : new String[] {"", "websocke", "websockets", "upgrade", "web-socket", "h2c", "websocket1",
+            "Xebsocket", "websockeX"}) {
             REQUEST.bad("upgrade " + value, Other.requestWith(2, "Upgrade: " + value));
         }
     }
@@ -302,7 +306,8 @@ final class RequestEdgesTest {
         for (String value : new String[] {"upgrade", "UPGRADE", "Upgrade", "keep-alive, Upgrade", "upgrade, close"}) {
             REQUEST.good("connection " + value, Other.requestWith(3, "Connection: " + value));
         }
-        for (String value : new String[] {"", "upgrad", "upgrades", "websocket", "keep-alive", "up-grade"}) {
+        for (String value : new String[] {"", "upgrad", "upgrades", "websocket", "keep-alive", "up-grade", "Xpgrade",
+            "upgradX"}) {
             REQUEST.bad("connection " + value, Other.requestWith(3, "Connection: " + value));
         }
     }
