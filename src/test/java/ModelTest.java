@@ -10,6 +10,10 @@ final class ModelTest {
     private static final int CALLS_FOR_A_LOOK = 100;
     private static final int CALLS_BEHIND_THE_END = 15;
     private static final String[] TEXTS = {"", "a", "hello", "\u00e9", "\u20ac\u20ac", "\ud83d\ude00", "x\u0800y"};
+    private static final int[][] NO_TEXTS = {
+        {0x80}, {0xC1, 0xBF}, {0xE0, 0x9F, 0xBF}, {0xED, 0xA0, 0x80}, {0xF0, 0x8F, 0xBF, 0xBF},
+        {0xF4, 0x90, 0x80, 0x80}, {0xF5, 0x80, 0x80, 0x80}, {0xC2}, {0xE1, 0x80}, {0xF1, 0x80, 0x80, 0x61},
+    };
     private static final int[] CODES = {
         1000, 1000, 1000, 1001, 1003, 1004, 1005, 1007, 1011, 1012, 2999, 3000, 4999, 5000, 0, 65535,
     };
@@ -60,7 +64,8 @@ final class ModelTest {
 
     private void step() {
         int chance = random.nextInt(100);
-        if (model.state() == 0 || chance < 50) {
+        boolean isAsking = model.state() == 0 && random.nextInt(12) > 0;
+        if (isAsking || chance < 50) {
             feed();
         } else if (chance < 55) {
             int n = random.nextInt(12) == 0 ? edge(model.outLength()) : random.nextInt(model.outLength() + 1);
@@ -187,23 +192,74 @@ final class ModelTest {
     }
 
     private void addRequest() {
-        String request = Other.request(Other.GOOD);
-        if (random.nextInt(8) == 0) {
-            String line = random.nextInt(6) == 0 ? null : Other.GOOD[random.nextInt(6)];
-            request = Other.requestWith(random.nextInt(6), line);
+        List<String> lines = new ArrayList<>(List.of(Other.GOOD));
+        if (random.nextInt(3) == 0) {
+            varyLines(lines);
         }
+        if (random.nextInt(10) == 0) {
+            lines.remove(random.nextInt(lines.size()));
+        } else if (random.nextInt(10) == 0) {
+            lines.add(1 + random.nextInt(lines.size()), lines.get(random.nextInt(lines.size())));
+        }
+        if (random.nextInt(12) == 0) {
+            fillUpTo(lines, 396 + random.nextInt(8));
+        }
+        String request = Other.request(lines.toArray(new String[0]));
+        add(Other.codes(random.nextInt(8) == 0 ? damaged(request) : request));
+    }
+
+    private void varyLines(List<String> lines) {
+        String words = random.nextBoolean() ? "keep-alive, Upgrade" : "up, upgrade2,,\tupGRADE ";
+        String host = random.nextInt(8) == 0 ? "" : "a b";
+        String version = random.nextInt(8) == 0 ? "1 3" : "13";
+        String[] values = {host, "h2c ,WebSocket", words, key(), version};
+        for (int i = 1; i < lines.size(); i++) {
+            String name = lines.get(i).substring(0, lines.get(i).indexOf(':'));
+            lines.set(i, inAnyCase(name) + ":" + blanks() + values[i - 1] + blanks());
+        }
+        lines.add("-9x:" + blanks());
+        java.util.Collections.shuffle(lines.subList(1, lines.size()), random);
+    }
+
+    private void fillUpTo(List<String> lines, int length) {
+        int missing = length - Other.request(lines.toArray(new String[0])).length() - "p:\r\n".length();
+        if (missing >= 0) {
+            lines.add(1 + random.nextInt(lines.size()), "p:" + "q".repeat(missing));
+        }
+    }
+
+    private String damaged(String request) {
+        String signs = "\r\n\t ,:-=aAwW13/\0\u00ff";
+        char sign = signs.charAt(random.nextInt(signs.length()));
         StringBuilder changed = new StringBuilder(request);
-        if (random.nextInt(8) == 0) {
-            String signs = "\r\n\t ,:-=aAwW13/\0\u00ff";
-            char sign = signs.charAt(random.nextInt(signs.length()));
-            int at = random.nextInt(changed.length());
-            if (random.nextBoolean()) {
+        int at = random.nextInt(changed.length());
+        switch (random.nextInt(3)) {
+            case 0:
+                return changed.deleteCharAt(at).toString();
+            case 1:
+                return changed.insert(at, sign).toString();
+            default:
                 changed.setCharAt(at, sign);
-            } else {
-                changed.insert(at, sign);
-            }
+                return changed.toString();
         }
-        add(Other.codes(changed.toString()));
+    }
+
+    private String key() {
+        byte[] raw = new byte[16];
+        random.nextBytes(raw);
+        return java.util.Base64.getEncoder().encodeToString(raw);
+    }
+
+    private String inAnyCase(String text) {
+        StringBuilder mixed = new StringBuilder();
+        for (char c : text.toCharArray()) {
+            mixed.append(random.nextBoolean() ? Character.toUpperCase(c) : Character.toLowerCase(c));
+        }
+        return mixed.toString();
+    }
+
+    private String blanks() {
+        return new String[] {"", " ", "\t", " \t "}[random.nextInt(4)];
     }
 
     private void addFrame() {
@@ -265,7 +321,8 @@ final class ModelTest {
                 add(random.nextInt(256), random.nextInt(256));
                 break;
             case 1:
-                add(Other.last(underWay ? 0 : 1, content(6)));
+                int[] noText = random.nextBoolean() ? content(6) : NO_TEXTS[random.nextInt(NO_TEXTS.length)];
+                add(Other.last(underWay ? 0 : 1, noText));
                 underWay = false;
                 break;
             case 2:
